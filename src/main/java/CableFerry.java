@@ -603,9 +603,11 @@ public final class CableFerry {
 
         int greatestTension(int hoursAhead) {
             int current = currentAhead(hoursAhead);
+            int weights = weightOnDeck();
+            int list = list();
             int greatest = 0;
             for (int k = 0; k < SECTIONS; k++) {
-                greatest = Math.max(greatest, wire.tensionOf(k, current, weightOnDeck(), list()));
+                greatest = Math.max(greatest, wire.tensionOf(k, current, weights, list));
             }
             return greatest;
         }
@@ -618,12 +620,19 @@ public final class CableFerry {
             if (wire.slack > Wire.GREATEST_SLACK_TO_CROSS) {
                 return 2;
             }
+            return isWireStrongEnough() ? 0 : 3;
+        }
+
+        private boolean isWireStrongEnough() {
+            int current = currentAhead(0);
+            int weights = weightOnDeck();
+            int list = list();
             for (int k = 0; k < SECTIONS; k++) {
-                if (reserveOf(k) < 0) {
-                    return 3;
+                if (wire.tensionOf(k, current, weights, list) > strengthOf(k)) {
+                    return false;
                 }
             }
-            return 0;
+            return true;
         }
 
         boolean canArrive(int bank) {

@@ -51,17 +51,16 @@ final class Check {
         due("digest() behind " + call, ferry.digest(), before);
     }
 
-    /** The call must save one state, and undo() must bring back what was. */
+    /** The call must save one state, and undo() must bring back what was; it is done again then. */
     static void undoable(String call, CableFerry ferry, LongSupplier made) {
         int saved = ferry.count(13);
+        due("5 saved states at most before " + call, Math.max(5, saved), 5);
         long before = ferry.digest();
-        made.getAsLong();
-        due("count(13) behind " + call, ferry.count(13), Math.min(6, saved + 1));
-        ferry.undo();
-        if (saved < 6) {
-            due("digest() behind " + call + " and undo()", ferry.digest(), before);
-        }
-        made.getAsLong();
+        long answer = made.getAsLong();
+        due("count(13) behind " + call, ferry.count(13), saved + 1);
+        due("undo() behind " + call, ferry.undo(), saved);
+        due("digest() behind " + call + " and undo()", ferry.digest(), before);
+        due(call + " again", made.getAsLong(), answer);
     }
 
     static void type(CableFerry ferry, String text) {

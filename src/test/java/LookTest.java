@@ -211,5 +211,20 @@ public final class LookTest {
         Check.due("section(9, 1)", x.section(9, 1), 268);
         Check.due("section(9, 2)", x.section(9, 2), 80);
         Check.due("weakest() by both", x.weakest(), 9);
+        x.draw(5);
+        x.current(9, 0);
+        Check.due("weakest() near the bank 0", x.weakest(), 1);
+        x.draw(2);
+        x.current(11, 0);
+        Check.due("weakest() at the bank 0", x.weakest(), 0);
+        x.set(0, 50);
+        x.arrive(1, 4);
+        x.load(0);
+        // A list of 4 is 12 against 50 - 40 there, 50 - 36 beside it.
+        Check.due("section(0, 1)", x.section(0, 1), 10);
+        Check.due("section(1, 1)", x.section(1, 1), 14);
+        Check.due("why(), the first section alone", x.why(), 3);
+        x.set(0, 52);
+        Check.due("why()", x.why(), 0);
     }
 }

@@ -47,8 +47,10 @@ public final class OutlookTest {
         y.cross();
         y.cross();
         y.arrive(1, 1);
-        // 10 * 21 / 10 + 3 less 4 times the slack 1.
+        // 10 * 21 / 10 + 3, less 4 times the slack 1.
         Check.due("ifLoaded(0) with slack", y.ifLoaded(0), 20);
+        y.current(3, 0);
+        Check.due("ifLoaded(0) is at least 0", y.ifLoaded(0), 0);
     }
 
     private static void bestHour() {
@@ -125,6 +127,14 @@ public final class OutlookTest {
         Check.due("leastList(6), no room", x.leastList(6), CableFerry.NONE);
         x.load(0);
         Check.due("leastList(1), the lane 1 alone", x.leastList(1), 16);
+        CableFerry z = new CableFerry();
+        for (int weight : new int[] {20, 20, 20, 12, 12, 12, 12, 12}) {
+            z.arrive(0, weight);
+        }
+        z.load(1);
+        z.load(1);
+        z.load(1);
+        Check.due("leastList(5), not all on the lane 0", z.leastList(5), 60 + 12 - 48);
         CableFerry y = new CableFerry();
         y.cross();
         y.arrive(0, 5);

@@ -89,9 +89,8 @@ public final class RiverTest {
         Check.badState("load(0), none waits", () -> x.load(0));
         x.arrive(1, 3);
         Check.badState("load(0), one waits at the other bank", () -> x.load(0));
-        for (int i = 1; i <= 6; i++) {
-            x.arrive(0, 10 + i);
-        }
+        Check.type(x, "a0:11;a0:12;a0:13;a0:14;a0:15;a0:16");
+        x.obey();
         Check.undoable("load(1)", x, () -> x.load(1));
         Check.due("waiting(0, 0)", x.waiting(0, 0), 12);
         Check.due("waiting(0, 4)", x.waiting(0, 4), 16);
@@ -123,14 +122,8 @@ public final class RiverTest {
         CableFerry x = new CableFerry();
         Check.undoable("unload() of an empty deck", x, x::unload);
         Check.due("count(13)", x.count(13), 1);
-        x.arrive(0, 5);
-        x.arrive(0, 5);
-        x.arrive(0, 4);
-        x.arrive(1, 6);
-        x.load(0);
-        x.load(1);
-        x.cross();
-        x.load(1);
+        Check.type(x, "a0:5;a0:5;a0:4;a1:6;l0;l1;x;l1");
+        x.obey();
         Check.due("deck(1, 1, 1)", x.deck(1, 1, 1), 1);
         Check.undoable("unload()", x, x::unload);
         Check.due("carried", x.count(10), 2);

@@ -93,6 +93,9 @@ public final class TextTest {
         error("w100", 3);
         error("w240", 3);
         error("w;", 1);
+        error("w:", 1);
+        error("a0::", 3);
+        error("w/", 1);
         error("d0", 1);
         error("d6", 1);
         error("d10", 2);
@@ -189,12 +192,12 @@ public final class TextTest {
         x.arrive(0, 3);
         Check.due("keep()", x.keep(), 7);
         Check.due("keep() is not undoable", x.count(13), 2);
+        Check.undoable("goBack() of nothing", x, x::goBack);
         x.set(1, 40);
         x.current(3, 33);
         x.load(0);
         x.cross();
-        Check.due("count(13)", x.count(13), 6);
-        Check.undoable("goBack()", x, x::goBack);
+        Check.due("goBack()", x.goBack(), 7);
         Check.due("goBack() again", x.goBack(), 7);
         Check.due("waiting(0, 0)", x.waiting(0, 0), 3);
         Check.due("setting(1)", x.setting(1), 12);
@@ -246,6 +249,18 @@ public final class TextTest {
         x.undo();
         Check.due("hours", x.count(0), 4);
         undoRestoresAll();
+        undoRestoresBanks();
+    }
+
+    private static void undoRestoresBanks() {
+        CableFerry x = obeyed(new CableFerry(), "a0:3;a1:3;l0;x", 4);
+        x.unload();
+        x.load(0);
+        Check.due("deck(0, 0, 1)", x.deck(0, 0, 1), 1);
+        x.undo();
+        x.undo();
+        Check.due("deck(0, 0, 1) undone", x.deck(0, 0, 1), 0);
+        Check.due("unload()", x.unload(), 1);
     }
 
     private static void undoRestoresAll() {

@@ -212,10 +212,8 @@ public final class WireTest {
     private static void draw() {
         CableFerry x = new CableFerry();
         x.set(2, 1);
-        x.arrive(1, 1);
-        x.cross();
-        x.cross();
-        x.cross();
+        Check.type(x, "a1:1;x;x;x");
+        x.obey();
         x.set(2, 10);
         Check.due("section(5, 0)", x.section(5, 0), 36);
         Check.undoable("draw(2)", x, () -> x.draw(2));
