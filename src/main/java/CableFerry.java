@@ -329,8 +329,10 @@ public final class CableFerry {
         if (now.reason() == 0) {
             return 0;
         }
-        for (int sections = 1; sections <= MOST_DRAWN; sections++) {
-            if (now.canDrawThrough(sections) && canCrossBehindDrawing(sections)) {
+        for (int sections = 1; sections <= MOST_DRAWN && now.canDrawThrough(sections); sections++) {
+            trial.copyFrom(now);
+            trial.drawThrough(sections);
+            if (trial.reason() == 0) {
                 return sections;
             }
         }
@@ -382,12 +384,6 @@ public final class CableFerry {
         System.arraycopy(from, 0, to, 0, Math.min(from.length, to.length));
     }
 
-    private boolean canCrossBehindDrawing(int sections) {
-        trial.copyFrom(now);
-        trial.drawThrough(sections);
-        return trial.reason() == 0;
-    }
-
     private int doOrders() {
         int done = 0;
         for (int i = 0; i < orders.length(); i++) {
@@ -405,10 +401,30 @@ public final class CableFerry {
     private boolean doOrder(int start) {
         int number = orders.numberAt(start + 1);
         switch (orders.codeAt(start)) {
-            case 'a': return now.arriveIfPossible(number, orders.numberAt(start + 3));
-            case 'l': return now.driveOnIfPossible(number);
-            case 'x': return now.crossIfPossible();
-            case 'd': return now.drawIfPossible(number);
+            case 'a':
+                if (!now.canArrive(number)) {
+                    return false;
+                }
+                now.letArrive(number, orders.numberAt(start + 3));
+                return true;
+            case 'l':
+                if (!now.canDriveOn(number)) {
+                    return false;
+                }
+                now.driveOn(number);
+                return true;
+            case 'x':
+                if (now.reason() != 0) {
+                    return false;
+                }
+                now.crossRiver();
+                return true;
+            case 'd':
+                if (!now.canDrawThrough(number)) {
+                    return false;
+                }
+                now.drawThrough(number);
+                return true;
             case 'w':
                 now.letPass(number);
                 return true;
@@ -590,7 +606,7 @@ public final class CableFerry {
         }
 
         int strengthOf(int section) {
-            return Math.max(0, at(settings, STRENGTH) - wire.wearOf(section) / 2);
+            return wire.strengthOf(section, at(settings, STRENGTH));
         }
 
         int tensionOf(int section) {
@@ -602,14 +618,7 @@ public final class CableFerry {
         }
 
         int greatestTension(int hoursAhead) {
-            int current = currentAhead(hoursAhead);
-            int weights = weightOnDeck();
-            int list = list();
-            int greatest = 0;
-            for (int k = 0; k < SECTIONS; k++) {
-                greatest = Math.max(greatest, wire.tensionOf(k, current, weights, list));
-            }
-            return greatest;
+            return wire.greatestTension(currentAhead(hoursAhead), weightOnDeck(), list());
         }
 
         /** Why the ferry cannot cross, 1 to 3; 0 if it can. */
@@ -620,19 +629,8 @@ public final class CableFerry {
             if (wire.slack > Wire.GREATEST_SLACK_TO_CROSS) {
                 return 2;
             }
-            return isWireStrongEnough() ? 0 : 3;
-        }
-
-        private boolean isWireStrongEnough() {
-            int current = currentAhead(0);
-            int weights = weightOnDeck();
-            int list = list();
-            for (int k = 0; k < SECTIONS; k++) {
-                if (wire.tensionOf(k, current, weights, list) > strengthOf(k)) {
-                    return false;
-                }
-            }
-            return true;
+            boolean holds = wire.canBear(currentAhead(0), weightOnDeck(), list(), at(settings, STRENGTH));
+            return holds ? 0 : 3;
         }
 
         boolean canArrive(int bank) {
@@ -689,38 +687,6 @@ public final class CableFerry {
         void drawThrough(int sections) {
             wire.renew(sections);
             letPass(sections);
-        }
-
-        boolean arriveIfPossible(int bank, int weight) {
-            boolean possible = canArrive(bank);
-            if (possible) {
-                letArrive(bank, weight);
-            }
-            return possible;
-        }
-
-        boolean driveOnIfPossible(int lane) {
-            boolean possible = canDriveOn(lane);
-            if (possible) {
-                driveOn(lane);
-            }
-            return possible;
-        }
-
-        boolean crossIfPossible() {
-            boolean possible = reason() == 0;
-            if (possible) {
-                crossRiver();
-            }
-            return possible;
-        }
-
-        boolean drawIfPossible(int sections) {
-            boolean possible = canDrawThrough(sections);
-            if (possible) {
-                drawThrough(sections);
-            }
-            return possible;
         }
 
         int leastListWith(int vehicles) {
@@ -790,7 +756,7 @@ public final class CableFerry {
         int wearTogether() {
             int together = 0;
             for (int k = 0; k < SECTIONS; k++) {
-                together += wearOf(k);
+                together += at(wears, k);
             }
             return together;
         }
@@ -801,11 +767,32 @@ public final class CableFerry {
             return Math.max(0, loaded + 3 * list - 4 * slack);
         }
 
+        int greatestTension(int current, int weights, int list) {
+            int greatest = 0;
+            for (int k = 0; k < SECTIONS; k++) {
+                greatest = Math.max(greatest, tensionOf(k, current, weights, list));
+            }
+            return greatest;
+        }
+
+        int strengthOf(int section, int unworn) {
+            return Math.max(0, unworn - at(wears, section) / 2);
+        }
+
+        boolean canBear(int current, int weights, int list, int unworn) {
+            for (int k = 0; k < SECTIONS; k++) {
+                if (tensionOf(k, current, weights, list) > strengthOf(k, unworn)) {
+                    return false;
+                }
+            }
+            return true;
+        }
+
         void bear(int current, int weights, int list, int bearing) {
             int together = stretch;
             for (int k = 0; k < SECTIONS; k++) {
                 int tension = tensionOf(k, current, weights, list);
-                int wear = wearOf(k) + tension / Math.max(1, bearing);
+                int wear = at(wears, k) + tension / Math.max(1, bearing);
                 put(wears, k, Math.min(GREATEST_WEAR, wear));
                 together += tension;
             }
@@ -815,7 +802,7 @@ public final class CableFerry {
 
         void renew(int sections) {
             for (int k = 0; k < SECTIONS; k++) {
-                put(wears, k, k + sections < SECTIONS ? wearOf(k + sections) : 0);
+                put(wears, k, k + sections < SECTIONS ? at(wears, k + sections) : 0);
             }
             drum -= sections;
             slack = 0;
@@ -868,7 +855,7 @@ public final class CableFerry {
         int countOfBank(int bank) {
             int count = 0;
             for (int place = 0; place < size; place++) {
-                if (bankOf(place) == bank) {
+                if (at(banks, place) == bank) {
                     count++;
                 }
             }
@@ -889,10 +876,10 @@ public final class CableFerry {
             if (size == 0) {
                 return;
             }
-            weight -= weightOf(0);
+            weight -= at(weights, 0);
             for (int place = 1; place < size; place++) {
-                put(weights, place - 1, weightOf(place));
-                put(banks, place - 1, bankOf(place));
+                put(weights, place - 1, at(weights, place));
+                put(banks, place - 1, at(banks, place));
             }
             size--;
         }
