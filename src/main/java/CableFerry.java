@@ -552,7 +552,7 @@ public final class CableFerry {
 
         State() {
             currents = new int[HOURS_OF_DAY];
-            for (int hour = 0; hour < HOURS_OF_DAY; hour++) {
+            for (int hour = 0; hour < currents.length; hour++) {
                 currents[hour] = FIRST_CURRENT;
             }
             settings = new int[SETTINGS];
@@ -898,7 +898,7 @@ public final class CableFerry {
 
         History() {
             saved = new State[MOST_SAVED];
-            for (int i = 0; i < MOST_SAVED; i++) {
+            for (int i = 0; i < saved.length; i++) {
                 saved[i] = new State();
             }
             oldest = 0;
@@ -931,7 +931,7 @@ public final class CableFerry {
 
         private State placeOf(int age) {
             int index = Math.floorMod(oldest + age, MOST_SAVED);
-            return saved[index];
+            return index >= 0 && index < saved.length ? saved[index] : null;
         }
     }
 

@@ -3,6 +3,7 @@ import java.util.function.LongSupplier;
 /** Compares answers with those that are due, and ends a test with 1 if one was wrong. */
 final class Check {
     private static int wrong = 0;
+    private static String about = "";
 
     private Check() {
     }
@@ -11,6 +12,10 @@ final class Check {
         if (got != want) {
             tell(call + " answered " + got + ", due is " + want);
         }
+    }
+
+    static void dueBits(String call, double got, double want) {
+        due(call, Double.doubleToLongBits(got), Double.doubleToLongBits(want));
     }
 
     static void dueText(String call, String got, String want) {
@@ -82,10 +87,15 @@ final class Check {
         }
     }
 
+    /** What is put ahead of each fault from now on. */
+    static void about(String text) {
+        about = text;
+    }
+
     static void tell(String fault) {
         wrong++;
         if (wrong <= 50) {
-            System.out.println(fault);
+            System.out.println(about + fault);
         }
     }
 }

@@ -1,7 +1,10 @@
+import java.io.IOException;
 import java.lang.reflect.Constructor;
 import java.lang.reflect.Field;
 import java.lang.reflect.Method;
 import java.lang.reflect.Modifier;
+import java.nio.file.Files;
+import java.nio.file.Path;
 import java.util.Set;
 import java.util.TreeSet;
 
@@ -23,13 +26,14 @@ public final class FaceTest {
         "double carriedShare()", "long digest()",
     };
 
-    public static void main(String[] args) {
+    public static void main(String[] args) throws IOException {
         Class<?> face = CableFerry.class;
         Check.due("public and final", face.getModifiers(), Modifier.PUBLIC | Modifier.FINAL);
         fields(face);
         constructors(face);
         methods(face);
         classesInside(face);
+        linesOfTheDocument();
         Check.end();
     }
 
@@ -91,5 +95,20 @@ public final class FaceTest {
             Check.due(inside + " is seen from outside", seen, 0);
             Check.due(inside + " is static", inside.getModifiers() & Modifier.STATIC, Modifier.STATIC);
         }
+    }
+
+    /** Each line of the document's face stands in the source, with its names and the order of its throws clause. */
+    private static void linesOfTheDocument() throws IOException {
+        String source = Files.readString(Path.of("src/main/java/CableFerry.java")).replaceAll("\\s+", " ");
+        int lines = 0;
+        for (String line : Files.readAllLines(Path.of("../shared/DOC.md"))) {
+            String text = line.strip();
+            if (text.startsWith("public ")) {
+                lines++;
+                String due = text.endsWith(");") || text.contains(" throws ") ? text.replace(";", " {") : text;
+                Check.due(text + " stands in the source", source.contains(due) ? 1 : 0, 1);
+            }
+        }
+        Check.due("lines of the face", lines, METHODS.length + 3);
     }
 }

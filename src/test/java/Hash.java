@@ -1,11 +1,25 @@
+import java.util.ArrayList;
+import java.util.List;
+
 /** The hash of promise 32, from what the other calls answer. */
 final class Hash {
-    private long hash = 3301;
+    // More than wait at a bank or stand on a lane: a look at them ends even if the class is wrong.
+    private static final int MOST = 20;
+    private final List<Long> values = new ArrayList<>();
 
     private Hash() {
     }
 
     static long of(CableFerry x, String buffer, boolean kept) {
+        long hash = 3301;
+        for (long value : values(x, buffer, kept)) {
+            hash = 31 * hash + value;
+        }
+        return hash;
+    }
+
+    /** What is hashed, in its order. */
+    static List<Long> values(CableFerry x, String buffer, boolean kept) {
         Hash h = new Hash();
         for (int what = 0; what <= 13; what++) {
             h.add(x.count(what));
@@ -39,13 +53,13 @@ final class Hash {
         for (char c : buffer.toCharArray()) {
             h.add(c);
         }
-        return h.hash;
+        return h.values;
     }
 
     private void addVehicles(CableFerry x) {
         for (int bank = 0; bank < 2; bank++) {
             int size = 0;
-            while (x.waiting(bank, size) != CableFerry.NONE) {
+            while (size < MOST && x.waiting(bank, size) != CableFerry.NONE) {
                 size++;
             }
             add(size);
@@ -55,7 +69,7 @@ final class Hash {
         }
         for (int lane = 0; lane < 2; lane++) {
             int size = 0;
-            while (x.deck(lane, size, 0) != CableFerry.NONE) {
+            while (size < MOST && x.deck(lane, size, 0) != CableFerry.NONE) {
                 size++;
             }
             add(size);
@@ -67,6 +81,6 @@ final class Hash {
     }
 
     private void add(long value) {
-        hash = 31 * hash + value;
+        values.add(value);
     }
 }

@@ -225,42 +225,38 @@ public final class OutlookTest {
         Check.due("needed(), the slack", x.needed(), 1);
     }
 
-    private static void dueBits(String call, double got, double want) {
-        Check.due(call, Double.doubleToLongBits(got), Double.doubleToLongBits(want));
-    }
-
     private static void shares() {
         CableFerry x = new CableFerry();
-        dueBits("wornShare(), new", x.wornShare(), 0f);
-        dueBits("carriedShare(), none", x.carriedShare(), 1.0);
+        Check.dueBits("wornShare(), new", x.wornShare(), 0f);
+        Check.dueBits("carriedShare(), none", x.carriedShare(), 1.0);
         x.set(2, 1);
         x.cross();
-        dueBits("wornShare()", x.wornShare(), 220f / 20000f);
+        Check.dueBits("wornShare()", x.wornShare(), 220f / 20000f);
         x.set(2, 50);
         for (int i = 0; i < 3; i++) {
             x.arrive(1, 2);
             x.load(0);
         }
         Check.unchanged("shares", x, () -> {
-            dueBits("carriedShare(), none drove off", x.carriedShare(), 1.0);
+            Check.dueBits("carriedShare(), none drove off", x.carriedShare(), 1.0);
             x.wornShare();
         });
         x.unload();
-        dueBits("carriedShare(), turned back", x.carriedShare(), 0.0);
+        Check.dueBits("carriedShare(), turned back", x.carriedShare(), 0.0);
         x.arrive(1, 2);
         x.load(0);
         x.cross();
         x.unload();
-        dueBits("carriedShare()", x.carriedShare(), 1.0 / 4.0);
+        Check.dueBits("carriedShare()", x.carriedShare(), 1.0 / 4.0);
         x.arrive(0, 2);
         x.arrive(0, 2);
         x.load(0);
         x.load(1);
         x.cross();
         x.unload();
-        dueBits("carriedShare()", x.carriedShare(), 3.0 / 6.0);
+        Check.dueBits("carriedShare()", x.carriedShare(), 3.0 / 6.0);
         x.undo();
-        dueBits("carriedShare() undone", x.carriedShare(), 1.0 / 4.0);
+        Check.dueBits("carriedShare() undone", x.carriedShare(), 1.0 / 4.0);
     }
 
     private static void dueDigest(String when, CableFerry x, String buffer, boolean kept) {
