@@ -1,6 +1,6 @@
 import java.io.IOException;
 
-/** Each sentence of the document with a test of its own, in six parts. */
+/** Each sentence of the document with a test of its own, in seven parts. */
 public final class SentenceTest {
     public static void main(String[] args) throws IOException {
         TermsSentences.all();
